@@ -11,11 +11,15 @@ import java.util.TreeMap;
  * another way: readings grow side by side, one codeword after the other, and are sorted at the end.
  */
 public final class CodedLettersAgainstModel {
-    private static final int RUNS = 1500;
+    private static final int RUNS = 4000;
     private static final int CALLS = 512;
+    /** No kind of call below makes more calls of the object than these. */
+    private static final int CALLS_AT_ONCE = 120;
     private static final int SHOWN = 20;
     private static long seed = 20261115;
     private static int wrong = 0;
+    /** How many calls the object of this run has had. */
+    private static int calls = 0;
     private static final Map<String, Integer> answers = new TreeMap<>();
 
     public static void main(String[] args) {
@@ -45,26 +49,48 @@ public final class CodedLettersAgainstModel {
         int numbers = 1 + next(run % 5 == 0 ? 26 : 6);
         int longest = many ? 1 : 1 + next(run % 4 == 0 ? 9 : 3);
         int gapOneIn = many ? 2 : 2 + next(4);
-        int call = 0;
-        while (call < CALLS && wrong < SHOWN) {
+        calls = 0;
+        while (calls <= CALLS - CALLS_AT_ONCE && wrong < SHOWN) {
             int kind = next(24);
             if (kind < 5) {
                 int length = 1 + next(longest);
-                for (int i = 0; i < length && call < CALLS - 1; i++, call++) {
+                for (int i = 0; i < length; i++) {
                     int u = letter(letters);
                     due(run, "unit " + u, x.unit(u) ? 1 : 0, m.unit(u) ? 1 : 0);
                 }
                 due(run, "word", x.word(), m.word());
+            } else if (kind < 11 && run % 2 == 0 && !m.words.isEmpty()) {
+                oneMeantWord(run, kind < 8, x, m);
             } else if (kind < 8) {
                 int length = 1 + next(8);
-                for (int i = 0; i < length && call < CALLS - 1; i++, call++) {
+                for (int i = 0; i < length; i++) {
                     int u = letter(letters);
                     due(run, "plain " + u, x.plain(u) ? 1 : 0, m.plain(u) ? 1 : 0);
                 }
             } else {
                 oneCall(run, kind, x, m, letters, numbers, gapOneIn);
             }
-            call++;
+        }
+        if (calls > CALLS) {
+            wrong++;
+            System.out.println("run " + run + ": " + calls + " calls, more than are promised");
+        }
+    }
+
+    /** A word of the list comes behind the plain or, in one fixed code, behind the code. */
+    private static void oneMeantWord(int run, boolean asPlain, CodedLetters x, Model m) {
+        String word = m.words.get(next(m.words.size()));
+        for (int i = 0; i < word.length(); i++) {
+            int u = word.charAt(i);
+            int v = (u * 7 + 3) % 26;
+            if (asPlain) {
+                due(run, "plain " + u, x.plain(u) ? 1 : 0, m.plain(u) ? 1 : 0);
+            } else {
+                due(run, "sign " + v, x.sign(v) ? 1 : 0, m.sign(v) ? 1 : 0);
+            }
+        }
+        if (!asPlain) {
+            due(run, "sign -1", x.sign(-1) ? 1 : 0, m.sign(-1) ? 1 : 0);
         }
     }
 
@@ -111,6 +137,7 @@ public final class CodedLettersAgainstModel {
                 if (next(8) == 0) {
                     x.clear();
                     m.clear();
+                    calls++;
                 }
                 due(run, "steps", x.steps(), m.steps);
             }
@@ -123,12 +150,14 @@ public final class CodedLettersAgainstModel {
         met(got < 2 ? "run " + got : got <= 200 ? "run 2..200" : "run 201..");
         due(run, "run " + steps, got, m.run(steps));
         due(run, "steps", x.steps(), m.steps);
-        for (int k = 0; k <= m.kept.size(); k += 1 + k / 5) {
-            for (int number = 0; number < 26; number++) {
+        int last = m.kept.size() - 1;
+        for (int k : new int[] {0, next(last + 2), last, last + 1}) {
+            int number = next(26);
+            for (int i = 0; i < 8; i++) {
                 due(run, "letter " + k + " " + number, x.letter(k, number), m.letter(k, number));
+                number = m.code.isEmpty() ? next(26) : m.code.get(next(m.code.size()));
             }
         }
-        due(run, "letter of the last", x.letter(m.kept.size() - 1, 0), m.letter(m.kept.size() - 1, 0));
         due(run, "best", x.best(), m.best());
     }
 
@@ -163,6 +192,7 @@ public final class CodedLettersAgainstModel {
     }
 
     private static void due(int run, String what, long got, long want) {
+        calls++;
         if (got != want) {
             wrong++;
             System.out.println("run " + run + ": " + what + " answered " + got + ", the model " + want);

@@ -1,7 +1,5 @@
 /** A test for each promise: ordinary inputs, the edges that the document names, wrong inputs. */
-public final class CodedLettersPromises {
-    private static int wrong = 0;
-
+public final class CodedLettersPromises extends Checks {
     public static void main(String[] args) {
         newObject();
         unit();
@@ -32,10 +30,7 @@ public final class CodedLettersPromises {
         breakAt();
         clear();
         dearRunsEnd();
-        System.out.println(wrong == 0 ? "all promises hold" : wrong + " answers are not as due");
-        if (wrong != 0) {
-            System.exit(1);
-        }
+        end();
     }
 
     private static void newObject() {
@@ -623,47 +618,5 @@ public final class CodedLettersPromises {
             due("7: too many", x.run(100000), -1);
         }
         due("7: too many, steps", x.steps(), 100000);
-    }
-
-    private static String sixtyWord(int i) {
-        return "" + (char) ('a' + i % 20) + (char) ('a' + i / 20) + "q";
-    }
-
-    private static CodedLetters withWords(String... texts) {
-        CodedLetters x = new CodedLetters();
-        for (int i = 0; i < texts.length; i++) {
-            due("word " + texts[i], add(x, texts[i]), i);
-        }
-        return x;
-    }
-
-    private static int add(CodedLetters x, String text) {
-        for (int i = 0; i < text.length(); i++) {
-            due("unit of " + text, x.unit(text.charAt(i)), true);
-        }
-        return x.word();
-    }
-
-    private static void code(CodedLetters x, String signs) {
-        for (String sign : signs.split(" ")) {
-            due("sign " + sign, x.sign(sign.equals("-") ? -1 : Integer.parseInt(sign)), true);
-        }
-    }
-
-    private static void plainText(CodedLetters x, String text) {
-        for (int i = 0; i < text.length(); i++) {
-            due("plain of " + text, x.plain(text.charAt(i)), true);
-        }
-    }
-
-    private static void due(String what, boolean got, boolean want) {
-        due(what, got ? 1 : 0, want ? 1 : 0);
-    }
-
-    private static void due(String what, long got, long want) {
-        if (got != want) {
-            wrong++;
-            System.out.println(what + ": answered " + got + ", due is " + want);
-        }
     }
 }
