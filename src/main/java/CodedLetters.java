@@ -20,6 +20,8 @@ public final class CodedLetters {
     /** Each codeword but the first needs a gap before it, so no more than half the signs begin one. */
     private static final int MAX_CODEWORDS = MAX_SIGNS / 2;
     private static final int MAX_READINGS = 200;
+    /** So many halvings bring any stretch of the readings kept down to one place. */
+    private static final int MAX_HALVINGS = 8;
     private static final int MAX_STEPS = 100000;
     private static final int MAX_WEIGHT = 1000;
     private static final int MAX_PLAIN = 60;
@@ -430,7 +432,7 @@ public final class CodedLetters {
             }
             int low = 0;
             int high = count - 1;
-            while (low < high) {
+            for (int halving = 0; halving < MAX_HALVINGS && low < high; halving++) {
                 int middle = (low + high) / 2;
                 if (isAhead(middle, reading)) {
                     low = middle + 1;

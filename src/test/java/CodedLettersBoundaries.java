@@ -48,6 +48,7 @@ public final class CodedLettersBoundaries extends Checks {
         allTwentySixNumbers();
         codeWithoutNumbers();
         theLeastNumberInWhichTheyDiffer();
+        eachReadingStandsInItsPlace();
     }
 
     // "of 1 to 8 letters"
@@ -152,6 +153,21 @@ public final class CodedLettersBoundaries extends Checks {
         due("Terms: alike in 24, so by 25", read(y, 0, 24, 25), "ac");
         due("Terms: and then", read(y, 1, 24, 25), "ad");
         due("Terms: b last", read(y, 2, 24, 25), "bc");
+    }
+
+    // "Of two readings that is ahead ..": wherever the words come from
+    private static void eachReadingStandsInItsPlace() {
+        for (int leap = 1; leap < 26; leap += leap == 11 ? 4 : 2) {
+            CodedLetters x = new CodedLetters();
+            for (int i = 0; i < 26; i++) {
+                due("Terms: word " + i, add(x, "" + (char) ('a' + (i * leap + 5) % 26)), i);
+            }
+            code(x, "3");
+            due("Terms: 26 readings", x.run(26), 26);
+            for (int k = 0; k < 26; k++) {
+                due("Terms: reading " + k + " by leaps of " + leap, x.letter(k, 3), 'a' + k);
+            }
+        }
     }
 
     // Promise 1
@@ -1446,6 +1462,7 @@ public final class CodedLettersBoundaries extends Checks {
 
     private static void clear() {
         clearOfTheFull();
+        clearOfTheNumbers();
         clearOfTheKept();
         clearLeavesWordsAndWeights();
     }
@@ -1481,6 +1498,20 @@ public final class CodedLettersBoundaries extends Checks {
         y.clear();
         due("20: a new object stays as it is", y.run(0), 1);
         due("20: first word", add(y, "a"), 0);
+    }
+
+    // "No code": a number of the code before is not in the code
+    private static void clearOfTheNumbers() {
+        for (int number = 0; number < 26; number++) {
+            CodedLetters x = withWords("a");
+            x.sign(number);
+            due("20: in the code", x.run(1), 1);
+            x.clear();
+            x.keep(number, 'a');
+            x.sign((number + 1) % 26);
+            due("20: a letter kept for " + number + " is free for others", x.run(1), 1);
+            due("20: it has no letter", x.letter(0, number), -1);
+        }
     }
 
     // "nothing kept"
