@@ -103,17 +103,29 @@ public final class CodedLettersBoundaries extends Checks {
     // "numbers 0 to 25", with a letter for each
     private static void allTwentySixNumbers() {
         CodedLetters x = withWords("abcdefgh", "ijklmnop", "qrstuvwx", "yz");
-        x.keep(0, 'a');
-        x.keep(8, 'i');
-        x.keep(16, 'q');
         for (int number = 0; number < 26; number++) {
             due("Terms: number " + number, x.sign(number), true);
             if (number % 8 == 7) {
                 x.sign(-1);
             }
         }
-        due("Terms: all numbers", x.run(10), 1);
-        due("Terms: all numbers, steps", x.steps(), 3 + 3 + 3 + 1);
+        due("Terms: all numbers by words alone", x.run(100), 3 * 2);
+        due("Terms: all numbers by words alone, steps", x.steps(), 3 + 3 * 3 + 6 * 3 + 6);
+        readsTheAlphabet(x);
+        x.keep(0, 'a');
+        x.keep(8, 'i');
+        x.keep(16, 'q');
+        due("Terms: all numbers, some kept", x.run(10), 1);
+        due("Terms: all numbers, some kept, steps", x.steps(), 3 + 3 + 3 + 1);
+        readsTheAlphabet(x);
+        for (int number = 0; number < 26; number++) {
+            x.keep(number, 'a' + number);
+        }
+        due("Terms: all numbers kept", x.run(10), 1);
+        readsTheAlphabet(x);
+    }
+
+    private static void readsTheAlphabet(CodedLetters x) {
         for (int number = 0; number < 26; number++) {
             due("Terms: letter of " + number, x.letter(0, number), 'a' + number);
         }
