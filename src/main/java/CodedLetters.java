@@ -444,6 +444,9 @@ public final class CodedLetters {
         }
 
         private boolean isAhead(int k, int[] reading) {
+            if (!has(k)) {
+                return false;
+            }
             int row = slots[k] * ALPHABET;
             for (int number = 0; number < ALPHABET; number++) {
                 int place = places[row + number];
@@ -575,14 +578,17 @@ public final class CodedLetters {
 
         private void takeBack(int givenBefore) {
             for (int i = givenCount - 1; i >= givenBefore; i--) {
-                int number = given[i];
-                int place = places[number];
-                if (isPlace(place)) {
-                    taken[place] = false;
-                }
-                places[number] = NONE;
+                release(given[i]);
             }
             givenCount = givenBefore;
+        }
+
+        private void release(int number) {
+            if (!isNumber(number) || !isPlace(places[number])) {
+                return;
+            }
+            taken[places[number]] = false;
+            places[number] = NONE;
         }
     }
 
